@@ -137,6 +137,12 @@ public final class ModesTest {
                 Due.is("47 " + a + " and " + b, want[a][b], () -> x.areWrittenAlike(a, b));
             }
         }
+        GongCircle y = new GongCircle();
+        Due.tune(y, 'l', 'p', 8, 15, 25, 35, 45, 55, 65, 75, 15);
+        Due.tune(y, 'l', 'p', 8, 15, 25, 35, 45, 55, 65, 75, 25);
+        Due.tune(y, 'l', 'p', 8, 25, 25, 35, 45, 55, 65, 75, 15);
+        Due.is("47 the last figure is another one", false, () -> y.areWrittenAlike(0, 1));
+        Due.is("47 the first figure is another one", false, () -> y.areWrittenAlike(0, 2));
         Due.isOutside("47 tune 6", () -> x.areWrittenAlike(6, 0));
         Due.isOutside("47 other 6", () -> x.areWrittenAlike(0, 6));
         Due.isOutside("47 tune -1", () -> x.areWrittenAlike(-1, 0));

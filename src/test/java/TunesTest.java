@@ -106,6 +106,12 @@ public final class TunesTest {
         Due.note(x, 15, 25, 35, 75, 65, 15, 25, 35);
         Due.isUnsupported("5 7 is not of s", () -> x.addTune('l', 's'));
         x.clearNotes();
+        Due.note(x, 45, 25, 35, 15, 65, 15, 25, 35);
+        Due.isUnsupported("5 the first one is not of s", () -> x.addTune('l', 's'));
+        x.clearNotes();
+        Due.note(x, 15, 25, 35, 15, 65, 15, 25, 75);
+        Due.isUnsupported("5 the last one is not of s", () -> x.addTune('l', 's'));
+        x.clearNotes();
         Due.note(x, 0, 0, 0, 0, 0, 0, 0, 15);
         Due.is("5 rests ahead of the last one", 1, () -> x.addTune('l', 's'));
         for (int i = 2; i < 6; i++) {
